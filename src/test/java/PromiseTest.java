@@ -460,7 +460,9 @@ final class PromiseTest {
         bring(x, 0, 1, 0, 1, 3);
         bring(x, 0, 1, 0, 2, 5);
         x.hand(0, 2, 0, 3, 9);
+        x.open(1, 50);
         Check.same("11: legs 0 and 1", x.share(0, 1, 0), 2);
+        Check.same("11: another sailing", x.rights(0, 1, 0), 50);
         int[] left = {5, 5, 5, 1};
         int[] air = {5, 2, 0, 9};
         for (int leg = 0; leg < 4; leg++) {
@@ -474,7 +476,10 @@ final class PromiseTest {
         Check.same("11: not open", x.share(0, 1, 2), 0);
         Check.same("11: numbers go on", x.hand(0, 1, 0, 0, 1), 7);
         IslandRights y = opened(1);
+        y.open(1, 50);
         Check.same("11: half of 1 is 0", y.share(0, 1, 0), 0);
+        Check.same("11: the sailing's legs only", y.share(0, 1, 1), 4);
+        Check.same("11: another sailing", y.rights(0, 0, 3), 1);
     }
 
     private static void shareWithLittleRoom() {
@@ -502,6 +507,7 @@ final class PromiseTest {
     private static void shareWrong() {
         IslandRights x = opened(100);
         failsForAll("11: no a", Check.INDEX, NO_INDEX_OF_FOUR, a -> x.share(a, a, 0));
+        failsForAll("11: no a", Check.INDEX, NO_INDEX_OF_FOUR, a -> x.share(a, 0, 0));
         failsForAll("11: no b", Check.INDEX, NO_INDEX_OF_FOUR, b -> x.share(0, b, 0));
         failsForAll("11: no sailing", Check.INDEX, NO_INDEX_OF_FOUR, s -> x.share(0, 0, s));
         Check.fails("11: the same port", Check.ARGUMENT, () -> x.share(2, 2, 0));
@@ -529,6 +535,7 @@ final class PromiseTest {
         Check.same("12: none waits", x.send(0, 1), 0);
         Check.same("12: the word is still on its way", x.arrive(0, 1), 0);
         failsForAll("12: no a", Check.INDEX, NO_INDEX_OF_FOUR, a -> x.send(a, a));
+        failsForAll("12: no a", Check.INDEX, NO_INDEX_OF_FOUR, a -> x.send(a, 0));
         failsForAll("12: no b", Check.INDEX, NO_INDEX_OF_FOUR, b -> x.send(0, b));
         Check.fails("12: the same port", Check.ARGUMENT, () -> x.send(1, 1));
     }
@@ -545,6 +552,7 @@ final class PromiseTest {
         Check.same("13: on its way no more", x.arrive(0, 1), NONE);
         Check.same("13: a receipt, no word", x.lose(0, 1), 1);
         failsForAll("13: no a", Check.INDEX, NO_INDEX_OF_FOUR, a -> x.arrive(a, a));
+        failsForAll("13: no a", Check.INDEX, NO_INDEX_OF_FOUR, a -> x.arrive(a, 0));
         failsForAll("13: no b", Check.INDEX, NO_INDEX_OF_FOUR, b -> x.arrive(0, b));
         Check.fails("13: the same port", Check.ARGUMENT, () -> x.arrive(1, 1));
     }
@@ -592,6 +600,7 @@ final class PromiseTest {
         Check.same("14: one left", x.receipt(0, 1), 1);
         Check.same("14: on its way no more", x.receipt(0, 1), NONE);
         failsForAll("14: no a", Check.INDEX, NO_INDEX_OF_FOUR, a -> x.receipt(a, a));
+        failsForAll("14: no a", Check.INDEX, NO_INDEX_OF_FOUR, a -> x.receipt(a, 0));
         failsForAll("14: no b", Check.INDEX, NO_INDEX_OF_FOUR, b -> x.receipt(0, b));
         Check.fails("14: the same port", Check.ARGUMENT, () -> x.receipt(1, 1));
     }
@@ -652,6 +661,7 @@ final class PromiseTest {
         Check.same("15: no receipt", x.receipt(0, 1), NONE);
         Check.same("15: the transfer waits", x.send(0, 1), 1);
         failsForAll("15: no a", Check.INDEX, NO_INDEX_OF_FOUR, a -> x.lose(a, a));
+        failsForAll("15: no a", Check.INDEX, NO_INDEX_OF_FOUR, a -> x.lose(a, 0));
         failsForAll("15: no b", Check.INDEX, NO_INDEX_OF_FOUR, b -> x.lose(0, b));
         Check.fails("15: the same port", Check.ARGUMENT, () -> x.lose(1, 1));
         Check.same("15: as before", x.arrive(0, 1), 0);
