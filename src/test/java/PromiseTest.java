@@ -390,15 +390,24 @@ final class PromiseTest {
     }
 
     private static void price() {
-        IslandRights x = opened(100);
-        for (int leg = 0; leg < 4; leg++) {
-            x.fare(0, leg, 1_000_000_000);
+        IslandRights x = new IslandRights();
+        IslandRights y = new IslandRights();
+        for (int sailing = 0; sailing < 4; sailing++) {
+            y.open(sailing, 100);
+            for (int leg = 0; leg < 4; leg++) {
+                y.fare(sailing, leg, 1_000_000_000);
+            }
+            y.part(sailing, 0, 4);
         }
+        Check.same("9: bought", y.buy(0, 100), 0);
+        Check.same("9: the highest of all", y.price(0), 1_600_000_000_000L);
+        x.open(0, 100);
+        x.fare(0, 0, 1_000_000_000);
         for (int i = 0; i < 4; i++) {
             x.part(0, 0, 4);
         }
         Check.same("9: bought", x.buy(0, 25), 0);
-        Check.same("9: the highest of all", x.price(0), 400_000_000_000L);
+        Check.same("9: a leg four times", x.price(0), 100_000_000_000L);
         x.open(1, 100);
         x.fare(1, 0, 1);
         x.fare(1, 1, 10);
