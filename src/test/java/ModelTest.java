@@ -24,23 +24,29 @@ final class ModelTest {
     };
     /** What has to be seen in all runs together, so that they do not test less than they seem to. */
     private static final String[] NEEDED = {
-        "open index", "open argument", "open state", "fare index", "fare argument", "part index",
-        "part argument", "part state", "part 4", "buy index", "buy argument", "buy state", "buy -1",
-        "buy 79", "wish index", "wish argument", "wish state", "wish 0", "wish 1", "cancel index",
-        "cancel state", "cancel 0", "cancel 1", "cancel 2", "cancel 3", "ticket index",
-        "ticket argument", "price index", "hand index", "hand argument", "hand state", "hand -1",
-        "hand 12", "share index", "share argument", "share 0", "share 2", "share 4", "send index",
-        "send argument", "send 0", "send 12", "arrive index", "arrive argument", "arrive -1",
-        "arrive 0", "arrive 1", "arrive 2", "arrive 3", "receipt index", "receipt argument",
-        "receipt -1", "receipt 0", "receipt 1", "lose index", "lose argument", "lose 0", "lose 1",
-        "lose 2", "crash index", "crash 0", "crash 1", "crash 3", "rights index", "air index",
-        "sold index", "wishes index", "wishes 6", "till index"
+        "open IndexOutOfBounds", "open IllegalArgument", "open IllegalState",
+        "fare IndexOutOfBounds", "fare IllegalArgument", "part IndexOutOfBounds",
+        "part IllegalArgument", "part IllegalState", "part 4", "buy IndexOutOfBounds",
+        "buy IllegalArgument", "buy IllegalState", "buy -1", "buy 79", "wish IndexOutOfBounds",
+        "wish IllegalArgument", "wish IllegalState", "wish 0", "wish 1", "cancel IndexOutOfBounds",
+        "cancel IllegalState", "cancel 0", "cancel 1", "cancel 2", "cancel 3",
+        "ticket IndexOutOfBounds", "ticket IllegalArgument", "price IndexOutOfBounds",
+        "hand IndexOutOfBounds", "hand IllegalArgument", "hand IllegalState", "hand -1", "hand 12",
+        "share IndexOutOfBounds", "share IllegalArgument", "share 0", "share 2", "share 4",
+        "send IndexOutOfBounds", "send IllegalArgument", "send 0", "send 12",
+        "arrive IndexOutOfBounds", "arrive IllegalArgument", "arrive -1", "arrive 0", "arrive 1",
+        "arrive 2", "arrive 3", "receipt IndexOutOfBounds", "receipt IllegalArgument", "receipt -1",
+        "receipt 0", "receipt 1", "lose IndexOutOfBounds", "lose IllegalArgument", "lose 0",
+        "lose 1", "lose 2", "crash IndexOutOfBounds", "crash 0", "crash 1", "crash 3",
+        "rights IndexOutOfBounds", "air IndexOutOfBounds", "sold IndexOutOfBounds",
+        "wishes IndexOutOfBounds", "wishes 6", "till IndexOutOfBounds"
     };
 
     private final Map<String, Integer> seen;
     private final Random random;
-    private final IslandRights program = new IslandRights();
-    private final Model model = new Model();
+    private final Subject program = Subject.program();
+    private final Model history = new Model();
+    private final Subject model = Subject.of(history);
     private final int[] weights = new int[NAMES.length];
     private final StringBuilder told = new StringBuilder();
     private final int ports;
@@ -76,8 +82,8 @@ final class ModelTest {
     private void run(int seed) {
         int calls = random.nextBoolean() ? CALLS : 1 + random.nextInt(CALLS);
         for (int i = 0; i < calls && Check.wrongSoFar() == 0; i++) {
-            int which = draw();
-            compare("seed " + seed, which, arguments(which));
+            String name = NAMES[draw()];
+            compare("seed " + seed, name, arguments(name));
         }
         if (Check.wrongSoFar() == 0) {
             compareState("the end of seed " + seed);
@@ -99,46 +105,36 @@ final class ModelTest {
             which++;
         }
         boolean needsDraft = which == BUY || which == WISH;
-        return needsDraft && model.draftIsEmpty() && random.nextInt(oddness) != 0 ? PART : which;
+        return needsDraft && history.draftIsEmpty() && random.nextInt(oddness) != 0 ? PART : which;
     }
 
-    private void compare(String where, int which, int... x) {
-        Object due = outcome(false, which, x);
-        Object got = outcome(true, which, x);
-        StringBuilder call = new StringBuilder(NAMES[which]).append('(');
-        for (int i = 0; i < x.length; i++) {
-            call.append(i == 0 ? "" : ", ").append(x[i]);
-        }
-        told.append(call).append(") due ").append(due).append('\n');
-        seen.merge(NAMES[which] + " " + due, 1, Integer::sum);
-        Check.same(where + ": " + call + ")", got, due);
+    private void compare(String where, String name, int... x) {
+        Object due = model.answer(name, x);
+        Object got = program.answer(name, x);
+        String call = Subject.text(name, x);
+        told.append(call).append(" due ").append(due).append('\n');
+        seen.merge(name + " " + due, 1, Integer::sum);
+        Check.same(where + ": " + call, got, due);
     }
 
     private void compareState(String where) {
         for (int i = 0; i < 4; i++) {
-            compare(where, 18, i);
-            compare(where, 19, i);
+            compare(where, "wishes", i);
+            compare(where, "till", i);
             for (int leg = 0; leg < 4; leg++) {
-                compare(where, 16, i, leg);
-                compare(where, 17, i, leg);
+                compare(where, "air", i, leg);
+                compare(where, "sold", i, leg);
                 for (int port = 0; port < 4; port++) {
-                    compare(where, 15, port, i, leg);
+                    compare(where, "rights", port, i, leg);
                 }
             }
         }
-        for (int ticket = 0; ticket < model.ticketCount(); ticket++) {
-            compare(where, ticket % 5 == 4 ? 7 : 6, ticket % 5 == 4 ? new int[] {ticket}
-                    : new int[] {ticket, ticket % 5});
-        }
-    }
-
-    private Object outcome(boolean ofProgram, int which, int[] x) {
-        try {
-            return Long.valueOf(ofProgram ? ofProgram(which, x) : ofModel(which, x));
-        } catch (RuntimeException e) {
-            return e.getClass() == IndexOutOfBoundsException.class ? "index"
-                    : e.getClass() == IllegalArgumentException.class ? "argument"
-                    : e.getClass() == IllegalStateException.class ? "state" : e.toString();
+        for (int ticket = 0; ticket < history.ticketCount(); ticket++) {
+            if (ticket % 5 == 4) {
+                compare(where, "price", ticket);
+            } else {
+                compare(where, "ticket", ticket, ticket % 5);
+            }
         }
     }
 
@@ -172,12 +168,12 @@ final class ModelTest {
     }
 
     private int ticketNumber() {
-        return index(Math.max(1, model.ticketCount()));
+        return index(Math.max(1, history.ticketCount()));
     }
 
-    private int[] arguments(int which) {
+    private int[] arguments(String name) {
         int a = port();
-        switch (NAMES[which]) {
+        switch (name) {
             case "open":
                 return new int[] {sailing(), number(100)};
             case "fare":
@@ -210,104 +206,6 @@ final class ModelTest {
                 return new int[] {sailing(), index(4)};
             default:
                 return new int[] {a};
-        }
-    }
-
-    private long ofProgram(int which, int[] x) {
-        switch (NAMES[which]) {
-            case "open":
-                program.open(x[0], x[1]);
-                return 0;
-            case "fare":
-                program.fare(x[0], x[1], x[2]);
-                return 0;
-            case "part":
-                return program.part(x[0], x[1], x[2]);
-            case "buy":
-                return program.buy(x[0], x[1]);
-            case "wish":
-                return program.wish(x[0], x[1]);
-            case "cancel":
-                return program.cancel(x[0]);
-            case "ticket":
-                return program.ticket(x[0], x[1]);
-            case "price":
-                return program.price(x[0]);
-            case "hand":
-                return program.hand(x[0], x[1], x[2], x[3], x[4]);
-            case "share":
-                return program.share(x[0], x[1], x[2]);
-            case "send":
-                return program.send(x[0], x[1]);
-            case "arrive":
-                return program.arrive(x[0], x[1]);
-            case "receipt":
-                return program.receipt(x[0], x[1]);
-            case "lose":
-                return program.lose(x[0], x[1]);
-            case "crash":
-                return program.crash(x[0]);
-            case "rights":
-                return program.rights(x[0], x[1], x[2]);
-            case "air":
-                return program.air(x[0], x[1]);
-            case "sold":
-                return program.sold(x[0], x[1]);
-            case "wishes":
-                return program.wishes(x[0]);
-            case "till":
-                return program.till(x[0]);
-            default:
-                throw new UnsupportedOperationException(NAMES[which]);
-        }
-    }
-
-    private long ofModel(int which, int[] x) {
-        switch (NAMES[which]) {
-            case "open":
-                model.open(x[0], x[1]);
-                return 0;
-            case "fare":
-                model.fare(x[0], x[1], x[2]);
-                return 0;
-            case "part":
-                return model.part(x[0], x[1], x[2]);
-            case "buy":
-                return model.buy(x[0], x[1]);
-            case "wish":
-                return model.wish(x[0], x[1]);
-            case "cancel":
-                return model.cancel(x[0]);
-            case "ticket":
-                return model.ticket(x[0], x[1]);
-            case "price":
-                return model.price(x[0]);
-            case "hand":
-                return model.hand(x[0], x[1], x[2], x[3], x[4]);
-            case "share":
-                return model.share(x[0], x[1], x[2]);
-            case "send":
-                return model.send(x[0], x[1]);
-            case "arrive":
-                return model.arrive(x[0], x[1]);
-            case "receipt":
-                return model.receipt(x[0], x[1]);
-            case "lose":
-                return model.lose(x[0], x[1]);
-            case "crash":
-                return model.crash(x[0]);
-            case "rights":
-                return model.rights(x[0], x[1], x[2]);
-            case "air":
-                return model.air(x[0], x[1]);
-            case "sold":
-                return model.sold(x[0], x[1]);
-            case "wishes":
-                return model.wishes(x[0]);
-            case "till":
-                return model.till(x[0]);
-            default:
-                throw new UnsupportedOperationException(NAMES[which]);
         }
     }
 }
