@@ -504,7 +504,9 @@ final class BoundaryTest {
                 hand(0, 1, 3, 0, 1) throws IllegalState
                 hand(0, 3, 0, 1, 1) = 1
                 send(0, 1) = 1
+                hand(0, 1, 0, 1, 1) throws IllegalState
                 arrive(0, 1) = 0
+                hand(0, 1, 0, 1, 1) throws IllegalState
                 hand(1, 0, 0, 0, 1) = 1
                 receipt(0, 1) = 1
                 hand(0, 1, 0, 1, 1) = 9
@@ -700,6 +702,8 @@ final class BoundaryTest {
                 arrive(0, 1) = 0
                 arrive(0, 1) = -1, nothing happens
                 receipt(0, 1) = 1
+                arrive(0, 1) = -1, nothing happens
+                receipt(0, 1) = -1, nothing happens
                 """);
         Script.run("13: not NONE when a word comes again and is not taken", States.BUSY, """
                 arrive(0, 1) = 0
