@@ -130,7 +130,7 @@ final class EdgeTest {
     private String where(List<Subject.Call> calls) {
         StringBuilder text = new StringBuilder(name).append(':');
         for (Subject.Call call : calls) {
-            text.append(' ').append(Subject.text(call.name(), call.arguments()));
+            text.append(' ').append(call);
         }
         return text.toString();
     }

@@ -38,6 +38,7 @@ final class FaceTest {
         Check.same("the face", members(), due);
         Check.same("the class", Modifier.toString(IslandRights.class.getModifiers()), "public final");
         Check.same("NONE", IslandRights.NONE, -1);
+        Check.same("private methods with a public one's name", sharedNames(), new TreeSet<String>());
         Check.end();
     }
 
@@ -59,6 +60,22 @@ final class FaceTest {
             }
         }
         return members;
+    }
+
+    /** Rule 1 of LANGUAGE.md: no private method bears the name of a public one. */
+    private static Set<String> sharedNames() {
+        Set<String> open = new TreeSet<>();
+        Set<String> hidden = new TreeSet<>();
+        for (Method method : IslandRights.class.getDeclaredMethods()) {
+            (Modifier.isPrivate(method.getModifiers()) ? hidden : open).add(method.getName());
+        }
+        for (Class<?> inside : IslandRights.class.getDeclaredClasses()) {
+            for (Method method : inside.getDeclaredMethods()) {
+                hidden.add(method.getName());
+            }
+        }
+        hidden.retainAll(open);
+        return hidden;
     }
 
     private static String signature(Method method) {

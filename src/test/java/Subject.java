@@ -47,6 +47,11 @@ final class Subject {
             }
             return new Call(words[0], arguments);
         }
+
+        @Override
+        public String toString() {
+            return text(name, arguments);
+        }
     }
 
     Object answer(Call call) {
